@@ -398,7 +398,7 @@ public final class LateCarries {
             case 5: return c == 0 && obeysPace(line, rest);
             case 6: return obeysLink(line, c, rest);
             case 7: return line.hasCounter(c) && line.reading(c) == rest;
-            case 8: return rest <= 1 && line.hasCounter(c) && line.isAtRest(c, c) == (rest == 1);
+            case 8: return rest <= 1 && line.hasCounter(c) && line.isAtRest(c) == (rest == 1);
             case 9: return rest % 1000 == 0 && obeysGreater(line, c, rest / 1000);
             default: return false;
         }
@@ -582,19 +582,14 @@ public final class LateCarries {
             return count;
         }
 
-        boolean isAtRest(int first, int last) {
-            for (int c = first; c <= last; c++) {
-                if (waitingAt(c) != 0) {
-                    return false;
-                }
-            }
-            return true;
+        boolean isAtRest(int c) {
+            return waitingAt(c) == 0;
         }
 
         int countersAtRest() {
             int count = 0;
             for (int c = 0; c < counters; c++) {
-                if (isAtRest(c, c)) {
+                if (isAtRest(c)) {
                     count++;
                 }
             }
@@ -802,30 +797,41 @@ public final class LateCarries {
             return start;
         }
 
+        /** The first counter from there to c at which something waits, or c + 1 if there is none. */
+        int firstAtWork(int from, int c) {
+            int first = from;
+            while (first <= c && isAtRest(first)) {
+                first++;
+            }
+            return first;
+        }
+
         /**
-         * Only the counters whose carries can reach c are run: what the others do is not seen by it.
-         * Answers how many beats it takes.
+         * Answers how many beats it takes. Only the counters whose carries can reach c are run, and of
+         * these no more those that are at rest with none at work ahead of them: nothing comes to them.
          */
         int runToRest(int c) {
-            int start = chainStart(c);
+            int first = firstAtWork(chainStart(c), c);
             int time = 0;
-            while (time < BEATS_TO_REST_LIMIT && !isAtRest(start, c)) {
-                passBeat(start, c);
+            while (first <= c && time < BEATS_TO_REST_LIMIT) {
+                passBeat(first, c);
                 time++;
+                first = firstAtWork(first, c);
             }
             return time;
         }
 
         int runToReading(int c, int v) {
-            int start = chainStart(c);
+            int first = chainStart(c);
             for (int time = 0; time < BEATS_TO_REST_LIMIT; time++) {
                 if (reading(c) == v) {
                     return time;
                 }
-                if (isAtRest(start, c)) {
+                first = firstAtWork(first, c);
+                if (first > c) {
                     return NONE;
                 }
-                passBeat(start, c);
+                passBeat(first, c);
             }
             return NONE;
         }
@@ -900,7 +906,6 @@ public final class LateCarries {
                     }
                     counters++;
                     digits = 0;
-                    marks = 0;
                 } else {
                     return i;
                 }

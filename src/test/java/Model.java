@@ -542,6 +542,18 @@ final class Model {
         return -1;
     }
 
+    /** What the counter c shows behind a command and n beats; only for tests that look for good scripts. */
+    int shownBehind(int command, int n, int c) {
+        Model other = twin();
+        try {
+            other.command(String.format("%06d", command));
+            other.beats(n);
+        } catch (IndexOutOfBoundsException | IllegalArgumentException | IllegalStateException e) {
+            // then the script fails, whatever stands behind it
+        }
+        return other.shown(c);
+    }
+
     private boolean command(String g) {
         int c = g.charAt(1) - '0';
         int rest = Integer.parseInt(g.substring(2));

@@ -244,6 +244,10 @@ public final class ModelTest {
             both("simulate(" + seed + ", " + turns + ")", () -> x.simulate(seed, turns), () -> m.simulate(seed, turns));
             return;
         }
+        if (random.nextInt(3) == 0) {
+            tellingScript();
+            return;
+        }
         int n = random.nextInt(20) == 0 ? within(1, 3) : 1 + random.nextInt(3);
         long script = 0;
         for (int i = 0; i < n && i < 3; i++) {
@@ -252,6 +256,16 @@ public final class ModelTest {
         int odd = random.nextInt(25);
         long given = odd == 0 ? -script : odd == 1 ? script * 10 : odd == 2 ? random.nextLong() : script;
         both("runScript(" + n + ", " + given + ")", () -> x.runScript(n, given), () -> m.runScript(n, given));
+    }
+
+    /** A command, some beats, and what a counter shows then: so a command that changes too little is seen. */
+    private void tellingScript() {
+        long first = command();
+        int beats = 1 + random.nextInt(6);
+        int c = random.nextInt(m.about(0));
+        int v = m.shownBehind((int) first, beats, c) % 10000;
+        long script = (first * 1000000 + 400000 + beats) * 1000000 + 700000 + 10000 * c + v;
+        both("runScript(3, " + script + ")", () -> x.runScript(3, script), () -> m.runScript(3, script));
     }
 
     private int command() {

@@ -166,9 +166,10 @@ public final class PromiseTest {
         x.add(0, 40);
         x.draw(2);
         x.setPace(4);
-        x.add(0, -1);
+        x.add(0, -2);
         x.resize(0, 1);
         x.beats(3);
+        Check.same("spilled ahead of load", x.counter(0, 2), -1);
         x.save(0);
         x.save(1);
         type(x, "12+/0--0>2");
@@ -204,14 +205,16 @@ public final class PromiseTest {
         x.add(0, 1);
         Check.refused("load() of no line", x, STATE, x::load);
         Check.same("a refused load keeps what is remembered", x.undo(), 0);
-        type(x, "000000000/1>1>1>1>222222222");
+        type(x, "2+2-2+2-2+2-2+2-2+>1>1>1>1>222222222");
         Check.same("load() of six", x.load(), 6);
-        places("nothing of the line ahead is left", x, 0, 0, 0, 0, 0, 0, 0, 0, 0);
         Check.same("nine places", x.counter(5, 0), 9);
         Check.same("greatest", x.shown(5), 19682);
         Check.same("the last one is not linked", x.counter(5, 1), 0);
         type(x, "2");
         Check.same("load() of one", x.load(), 1);
+        Check.same("it is not linked any more", x.counter(0, 1), 0);
+        x.resize(0, 9);
+        places("nothing of the line ahead is left above", x, 0, 2, 0, 0, 0, 0, 0, 0, 0, 0, 0, 0, 0, 0, 0, 0, 0, 0, 0);
         Check.same("one counter", x.about(0), 1);
         Check.refused("link(0, true) of one", x, INDEX, () -> x.link(0, true));
     }
@@ -526,6 +529,14 @@ public final class PromiseTest {
         longer.setPace(5);
         Check.same("at the pace 5", longer.settled(1), 2);
         Check.same("nothing is changed", longer.about(2), 0);
+        LateCarries heap = lineOf("0>0");
+        for (int i = 0; i < 250; i++) {
+            heap.add(0, 2);
+        }
+        Check.same("500 at the pace 1", heap.settled(0), 500);
+        Check.same("the last carry comes behind beat 498", heap.settled(1), 500);
+        Check.same("500 is 2 and 166 carries", heap.shownAtLast(0), 2);
+        Check.same("166 is 1 and 55 carries", heap.shownAtLast(1), 1);
         Check.refused("settled(2)", longer, INDEX, () -> longer.settled(2));
         Check.refused("settled(-1)", longer, INDEX, () -> longer.settled(-1));
     }
@@ -584,12 +595,13 @@ public final class PromiseTest {
     private static void promise26Slowest() {
         Check.same("slowest(0) of a new one", new LateCarries().slowest(0), 2);
         Check.same("slowest(0) of 1 place", lineOf("2").slowest(0), 2);
-        LateCarries x = lineOf("010/0100/01000/01/0/10");
+        LateCarries x = lineOf("010/0100/02000/01/0/10");
         x.setPace(9);
         int[] due = {6, 18, 1, 2, 1, 1};
         for (int c = 0; c < due.length; c++) {
             Check.same("slowest(" + c + ")", x.slowest(c), due[c]);
         }
+        Check.same("the last one of 8", lineOf("0+1").slowest(0), 8);
         Check.same("with a counter ahead that is slower", lineOf("0+++++>0").slowest(1), 1);
         Check.refused("slowest(6)", x, INDEX, () -> x.slowest(6));
         Check.refused("slowest(-1)", x, INDEX, () -> x.slowest(-1));
@@ -634,7 +646,7 @@ public final class PromiseTest {
         long[] bad = {
             0, 1, 99999, 100081, 110009, 130003, 140000, 190000, 200081, 230003, 240000, 300001, 340000, 301000, 400000,
             400100, 401001, 410001, 500000, 500010, 510001, 501001, 600002, 600011, 601000, 630000, 640000, 690001,
-            700001, 740000, 790000, 800000, 800002, 820001, 800011, 801001, 840000, 840001, 900000, 901000, 904000,
+            820002, 700001, 740000, 790000, 800000, 800002, 820001, 800011, 801001, 840000, 840001, 900000, 901000, 904000,
             940000, 910001, 910010, 910100, 990000, 999999};
         for (long command : bad) {
             script(x, 1, command, 0);
@@ -650,7 +662,27 @@ public final class PromiseTest {
         script(x, 2, 5L, 0);
         script(x, 3, 999999999999999999L, 0);
         script(x, 3, 300000999999300000L, 1);
+        scriptChanges();
         scriptRefused(x);
+    }
+
+    private static void scriptChanges() {
+        LateCarries x = lineOf("0++/2+/0/1+/2");
+        script(x, 3, 500002400001700002L, -1);
+        script(x, 3, 500001400001700002L, 2);
+        script(x, 3, 610001400002720001L, -1);
+        script(x, 3, 610000400002720001L, 2);
+        script(x, 3, 300000400003700000L, -1);
+        script(x, 2, 100001904000L, -1);
+        script(x, 1, 934000L, 0);
+        script(x, 1, 903000L, 0);
+        script(x, 1, 930000L, 0);
+        script(x, 1, 913000L, -1);
+        LateCarries linked = lineOf("2+>0");
+        script(linked, 3, 600000400002710001L, 2);
+        script(linked, 3, 600000400002710000L, -1);
+        script(linked, 3, 600001400002710001L, -1);
+        script(linked, 1, 901000L, -1);
     }
 
     private static void scriptRefused(LateCarries x) {
@@ -701,6 +733,7 @@ public final class PromiseTest {
             for (int m : new int[] {1, 2, 7, 50, 99}) {
                 for (long seed = -3; seed <= 3; seed++) {
                     LateCarries x = lineOf(text);
+                    x.draw(0);
                     x.draw(0);
                     String ahead = Look.at(x);
                     int got = x.simulate(seed, m);
