@@ -34,21 +34,13 @@ public final class ModelTest {
         }
     }
 
-    private static String answer(LongSupplier call) {
-        try {
-            return Long.toString(call.getAsLong());
-        } catch (RuntimeException e) {
-            return "throws." + e.getClass().getSimpleName();
-        }
-    }
-
     private void both(String name, LongSupplier got, LongSupplier due) {
         if (wrong || calls >= CALLS) {
             return;
         }
         calls++;
-        String a = answer(got);
-        String b = answer(due);
+        String a = Look.answer(got);
+        String b = Look.answer(due);
         if (!a.equals(b)) {
             wrong = true;
             System.out.println("run " + run + ", call " + calls + ": " + name + " answered " + a + ", due is " + b);

@@ -42,34 +42,6 @@ public final class PromiseTest {
         Check.finish("PromiseTest");
     }
 
-    private static void type(LateCarries x, String text) {
-        x.clearText();
-        for (int i = 0; i < text.length(); i++) {
-            x.append(text.charAt(i));
-        }
-    }
-
-    private static LateCarries lineOf(String text) {
-        LateCarries x = new LateCarries();
-        type(x, text);
-        x.load();
-        return x;
-    }
-
-    private static LateCarries withTickets(int n) {
-        LateCarries x = new LateCarries();
-        for (int i = 0; i < n; i++) {
-            x.draw(i % 3);
-        }
-        return x;
-    }
-
-    private static void places(String what, LateCarries x, int c, int... digitsAndWaiting) {
-        for (int i = 0; i < digitsAndWaiting.length; i++) {
-            Check.same(what + ": place(" + c + ", " + i / 2 + ", " + i % 2 + ")", x.place(c, i / 2, i % 2), digitsAndWaiting[i]);
-        }
-    }
-
     private static void promise1NewObject() {
         LateCarries x = new LateCarries();
         Check.same("NONE", LateCarries.NONE, -1);
@@ -81,7 +53,7 @@ public final class PromiseTest {
             Check.same("new: places", x.counter(c, 0), 4);
             Check.same("new: linked", x.counter(c, 1), 0);
             Check.same("new: spilled", x.counter(c, 2), 0);
-            places("new", x, c, 0, 0, 0, 0, 0, 0, 0, 0);
+            Check.places("new", x, c, 0, 0, 0, 0, 0, 0, 0, 0);
         }
         Check.same("new: clearText()", x.clearText(), 0);
         Check.refused("new: undo()", x, STATE, x::undo);
@@ -110,7 +82,7 @@ public final class PromiseTest {
     }
 
     private static void promise3ClearText() {
-        LateCarries x = lineOf("12");
+        LateCarries x = Lines.of("12");
         Check.same("clearText()", x.clearText(), 2);
         Check.same("clearText() again", x.clearText(), 0);
         Check.same("errorPosition() behind it", x.errorPosition(), 0);
@@ -119,7 +91,7 @@ public final class PromiseTest {
 
     private static void error(String text, int due) {
         LateCarries x = new LateCarries();
-        type(x, text);
+        Lines.type(x, text);
         Check.same("errorPosition() of " + text, x.errorPosition(), due);
     }
 
@@ -172,11 +144,11 @@ public final class PromiseTest {
         Check.same("spilled ahead of load", x.counter(0, 2), -1);
         x.save(0);
         x.save(1);
-        type(x, "12+/0--0>2");
+        Lines.type(x, "12+/0--0>2");
         Check.same("load()", x.load(), 3);
-        places("loaded", x, 0, 2, 1, 1, 0);
-        places("loaded", x, 1, 0, 0, 0, -2);
-        places("loaded", x, 2, 2, 0);
+        Check.places("loaded", x, 0, 2, 1, 1, 0);
+        Check.places("loaded", x, 1, 0, 0, 0, -2);
+        Check.places("loaded", x, 2, 2, 0);
         int[] about = {3, 1, 0, 0, 1, 2, 0};
         for (int what = 0; what < about.length; what++) {
             Check.same("loaded: about(" + what + ")", x.about(what), about[what]);
@@ -199,28 +171,28 @@ public final class PromiseTest {
     private static void loadAgain(LateCarries x) {
         x.add(0, 1);
         x.save(0);
-        type(x, "0+-");
+        Lines.type(x, "0+-");
         Check.refused("load() of no line", x, STATE, x::load);
         Check.same("a refused load keeps the slot", x.restore(0), 0);
         x.add(0, 1);
         Check.refused("load() of no line", x, STATE, x::load);
         Check.same("a refused load keeps what is remembered", x.undo(), 0);
-        type(x, "2+2-2+2-2+2-2+2-2+>1>1>1>1>222222222");
+        Lines.type(x, "2+2-2+2-2+2-2+2-2+>1>1>1>1>222222222");
         Check.same("load() of six", x.load(), 6);
         Check.same("nine places", x.counter(5, 0), 9);
         Check.same("greatest", x.shown(5), 19682);
         Check.same("the last one is not linked", x.counter(5, 1), 0);
-        type(x, "2");
+        Lines.type(x, "2");
         Check.same("load() of one", x.load(), 1);
         Check.same("it is not linked any more", x.counter(0, 1), 0);
         x.resize(0, 9);
-        places("nothing of the line ahead is left above", x, 0, 2, 0, 0, 0, 0, 0, 0, 0, 0, 0, 0, 0, 0, 0, 0, 0, 0, 0);
+        Check.places("nothing of the line ahead is left above", x, 0, 2, 0, 0, 0, 0, 0, 0, 0, 0, 0, 0, 0, 0, 0, 0, 0, 0, 0);
         Check.same("one counter", x.about(0), 1);
         Check.refused("link(0, true) of one", x, INDEX, () -> x.link(0, true));
     }
 
     private static void promise6About() {
-        LateCarries x = lineOf("12+2-/01/2--");
+        LateCarries x = Lines.of("12+2-/01/2--");
         x.setPace(7);
         x.draw(1);
         x.draw(1);
@@ -239,7 +211,7 @@ public final class PromiseTest {
     }
 
     private static void promise7Shown() {
-        LateCarries x = lineOf("1+02-/222222222/0+++++");
+        LateCarries x = Lines.of("1+02-/222222222/0+++++");
         Check.same("shown(0)", x.shown(0), 11);
         Check.same("shown(1)", x.shown(1), 19682);
         Check.same("shown(2)", x.shown(2), 0);
@@ -248,7 +220,7 @@ public final class PromiseTest {
     }
 
     private static void promise8Worth() {
-        LateCarries x = lineOf("1+02-/0-----/2+++++2+++++/0-1");
+        LateCarries x = Lines.of("1+02-/0-----/2+++++2+++++/0-1");
         Check.same("worth(0)", x.worth(0), 19);
         Check.same("worth(1)", x.worth(1), -5);
         Check.same("worth(2)", x.worth(2), 28);
@@ -258,7 +230,7 @@ public final class PromiseTest {
     }
 
     private static void promise9Counter() {
-        LateCarries x = lineOf("2+2/0->1-2+1/0");
+        LateCarries x = Lines.of("2+2/0->1-2+1/0");
         x.draw(1);
         x.draw(1);
         x.draw(2);
@@ -281,9 +253,9 @@ public final class PromiseTest {
     }
 
     private static void promise10Place() {
-        LateCarries x = lineOf("1+02--/2");
-        places("place", x, 0, 2, -2, 0, 0, 1, 1);
-        places("place", x, 1, 2, 0);
+        LateCarries x = Lines.of("1+02--/2");
+        Check.places("place", x, 0, 2, -2, 0, 0, 1, 1);
+        Check.places("place", x, 1, 2, 0);
         Check.refused("place(2, 0, 0)", x, INDEX, () -> x.place(2, 0, 0));
         Check.refused("place(-1, 0, 0)", x, INDEX, () -> x.place(-1, 0, 0));
         Check.refused("place(0, 3, 0)", x, INDEX, () -> x.place(0, 3, 0));
@@ -294,7 +266,7 @@ public final class PromiseTest {
     }
 
     private static void promise11Ticket() {
-        LateCarries x = lineOf("1-2/0");
+        LateCarries x = Lines.of("1-2/0");
         x.beats(4);
         x.add(0, -5);
         x.draw(0);
@@ -320,7 +292,7 @@ public final class PromiseTest {
     }
 
     private static void promise12Sorted() {
-        LateCarries x = lineOf("2/1/1/0");
+        LateCarries x = Lines.of("2/1/1/0");
         int[] drawn = {0, 2, 1, 2, 1, 3};
         for (int c : drawn) {
             x.draw(c);
@@ -336,7 +308,7 @@ public final class PromiseTest {
     }
 
     private static void promise13Ranked() {
-        LateCarries x = lineOf("1/2/1+++/2/0+");
+        LateCarries x = Lines.of("1/2/1+++/2/0+");
         int[] shown = {1, 3, 0, 2, 4};
         int[] worths = {2, 1, 3, 0, 4};
         for (int k = 0; k < 5; k++) {
@@ -348,7 +320,7 @@ public final class PromiseTest {
     }
 
     private static void promise14Add() {
-        LateCarries x = lineOf("000000000/1/00");
+        LateCarries x = Lines.of("000000000/1/00");
         Check.same("add(0, 19682)", x.add(0, 19682), 18);
         Check.same("add(0, -19682)", x.add(0, -19682), 18);
         Check.same("they meet", x.about(5), 0);
@@ -356,11 +328,11 @@ public final class PromiseTest {
         Check.same("add(1, 0)", x.add(1, 0), 0);
         Check.same("add(1, -2)", x.add(1, -2), 2);
         Check.same("add(2, 5)", x.add(2, 5), 3);
-        places("add", x, 1, 1, -2);
-        places("add", x, 2, 0, 2, 0, 1);
+        Check.places("add", x, 1, 1, -2);
+        Check.places("add", x, 2, 0, 2, 0, 1);
         Check.same("add(2, 8)", x.add(2, 8), 4);
         Check.same("add(2, -7)", x.add(2, -7), 3);
-        places("add", x, 2, 0, 3, 0, 1);
+        Check.places("add", x, 2, 0, 3, 0, 1);
         Check.refused("add(3, 19683)", x, INDEX, () -> x.add(3, 19683));
         Check.refused("add(-1, 0)", x, INDEX, () -> x.add(-1, 0));
         Check.refused("add(1, 19683)", x, ARGUMENT, () -> x.add(1, 19683));
@@ -373,15 +345,15 @@ public final class PromiseTest {
     }
 
     private static void promise15Draw() {
-        LateCarries x = lineOf("12/0-");
+        LateCarries x = Lines.of("12/0-");
         Check.same("draw(0)", x.draw(0), 5);
         Check.same("draw(0) again", x.draw(0), 5);
         Check.same("draw(1)", x.draw(1), 0);
-        places("two carries wait", x, 0, 2, 2, 1, 0);
-        places("a carry meets a borrow", x, 1, 0, 0);
+        Check.places("two carries wait", x, 0, 2, 2, 1, 0);
+        Check.places("a carry meets a borrow", x, 1, 0, 0);
         Check.refused("draw(2)", x, INDEX, () -> x.draw(2));
         Check.refused("draw(-1)", x, INDEX, () -> x.draw(-1));
-        LateCarries full = withTickets(39);
+        LateCarries full = Lines.withTickets(39);
         Check.same("the 40th", full.draw(0), 0);
         Check.same("40 tickets", full.about(3), 40);
         Check.refused("the 41st", full, STATE, () -> full.draw(0));
@@ -391,15 +363,15 @@ public final class PromiseTest {
     }
 
     private static void promise16Beats() {
-        LateCarries x = lineOf("22+/0-----/2+>2");
+        LateCarries x = Lines.of("22+/0-----/2+>2");
         Check.same("beats(1)", x.beats(1), 1);
-        places("all places at one time", x, 0, 0, 0, 2, 1);
-        places("borrows", x, 1, 2, -4);
+        Check.places("all places at one time", x, 0, 0, 0, 2, 1);
+        Check.places("borrows", x, 1, 2, -4);
         Check.same("a borrow is spilled", x.counter(1, 2), -1);
-        places("a carry goes to the next counter", x, 3, 2, 1);
+        Check.places("a carry goes to the next counter", x, 3, 2, 1);
         Check.same("and is not spilled", x.counter(2, 2), 0);
         Check.same("beats(1)", x.beats(1), 3);
-        places("the second beat", x, 0, 0, 0, 0, 0);
+        Check.places("the second beat", x, 0, 0, 0, 0, 0);
         Check.same("a carry is spilled", x.counter(0, 2), 1);
         Check.same("the last one spills", x.counter(3, 2), 1);
         Check.same("beats(99)", x.beats(99), 4);
@@ -410,22 +382,22 @@ public final class PromiseTest {
     }
 
     private static void beatsAtAPace() {
-        LateCarries x = lineOf("0+++++/0-----/02+++++");
+        LateCarries x = Lines.of("0+++++/0-----/02+++++");
         x.setPace(3);
         Check.same("beats(1) at the pace 3", x.beats(1), 0);
-        places("carries at the pace 3", x, 0, 0, 2);
-        places("borrows at the pace 3", x, 1, 0, -2);
-        places("a carry waits above", x, 2, 2, 2, 0, 1);
+        Check.places("carries at the pace 3", x, 0, 0, 2);
+        Check.places("borrows at the pace 3", x, 1, 0, -2);
+        Check.places("a carry waits above", x, 2, 2, 2, 0, 1);
         Check.same("spilled", x.counter(0, 2), 1);
         Check.same("spilled borrows", x.counter(1, 2), -1);
         x.beats(1);
-        places("the rest of the borrows", x, 1, 1, 0);
+        Check.places("the rest of the borrows", x, 1, 1, 0);
         Check.same("spilled borrows", x.counter(1, 2), -2);
-        LateCarries fast = lineOf("02+++++/0-----");
+        LateCarries fast = Lines.of("02+++++/0-----");
         fast.setPace(9);
         fast.beats(1);
-        places("7 is 1 and two carries", fast, 0, 1, 0, 0, 2);
-        places("-5 is 1 and two borrows", fast, 1, 1, 0);
+        Check.places("7 is 1 and two carries", fast, 0, 1, 0, 0, 2);
+        Check.places("-5 is 1 and two borrows", fast, 1, 1, 0);
         Check.same("two borrows are spilled", fast.counter(1, 2), -2);
     }
 
@@ -456,13 +428,13 @@ public final class PromiseTest {
     }
 
     private static void promise19Resize() {
-        LateCarries x = lineOf("1+2-0++/0");
+        LateCarries x = Lines.of("1+2-0++/0");
         Check.same("resize(0, 1)", x.resize(0, 1), 3);
-        places("the lowest stays", x, 0, 0, 2);
+        Check.places("the lowest stays", x, 0, 0, 2);
         Check.same("one place", x.counter(0, 0), 1);
         Check.same("nothing is spilled", x.counter(0, 2), 0);
         Check.same("resize(0, 9)", x.resize(0, 9), 1);
-        places("new ones are empty", x, 0, 0, 2, 0, 0, 0, 0, 0, 0, 0, 0, 0, 0, 0, 0, 0, 0, 0, 0);
+        Check.places("new ones are empty", x, 0, 0, 2, 0, 0, 0, 0, 0, 0, 0, 0, 0, 0, 0, 0, 0, 0, 0, 0);
         Check.same("resize(0, 9) again", x.resize(0, 9), 9);
         Check.refused("resize(2, 0)", x, INDEX, () -> x.resize(2, 0));
         Check.refused("resize(-1, 1)", x, INDEX, () -> x.resize(-1, 1));
@@ -472,14 +444,14 @@ public final class PromiseTest {
     }
 
     private static void promise20Pour() {
-        LateCarries x = lineOf("1+2-0++/2+1>0--");
+        LateCarries x = Lines.of("1+2-0++/2+1>0--");
         Check.same("pour(0, 1)", x.pour(0, 1), 5);
-        places("c is empty", x, 0, 0, 0, 0, 0, 0, 0);
-        places("d", x, 1, 1, 2, 2, 2);
+        Check.places("c is empty", x, 0, 0, 0, 0, 0, 0, 0);
+        Check.places("d", x, 1, 1, 2, 2, 2);
         Check.same("two are spilled by d, though it is linked", x.counter(1, 2), 2);
         Check.same("none by c", x.counter(0, 2), 0);
         Check.same("pour(2, 1)", x.pour(2, 1), -2);
-        places("d", x, 1, 1, 0, 2, 2);
+        Check.places("d", x, 1, 1, 0, 2, 2);
         Check.same("pour(1, 2)", x.pour(1, 2), 1);
         Check.same("the upper place is spilled", x.counter(2, 2), 4);
         Check.refused("pour(0, 0)", x, ARGUMENT, () -> x.pour(0, 0));
@@ -491,7 +463,7 @@ public final class PromiseTest {
     }
 
     private static void promise21Undo() {
-        LateCarries x = lineOf("2+>2+2-/0");
+        LateCarries x = Lines.of("2+>2+2-/0");
         String[] seen = new String[30];
         Runnable[] acts = {
             () -> x.add(0, 2), () -> x.draw(1), () -> x.beats(2), () -> x.setPace(3), () -> x.link(0, false),
@@ -513,23 +485,23 @@ public final class PromiseTest {
     }
 
     private static void promise22Settled() {
-        LateCarries x = lineOf("2+>2>2/2++++/0");
+        LateCarries x = Lines.of("2+>2>2/2++++/0");
         int[] due = {1, 2, 3, 4, 0};
         for (int c = 0; c < due.length; c++) {
             Check.same("settled(" + c + ")", x.settled(c), due[c]);
         }
-        LateCarries y = lineOf("0>0+/22+");
+        LateCarries y = Lines.of("0>0+/22+");
         Check.same("settled(0)", y.settled(0), 0);
         Check.same("settled(1)", y.settled(1), 1);
         Check.same("settled(2)", y.settled(2), 2);
-        LateCarries z = lineOf("0+++>0");
+        LateCarries z = Lines.of("0+++>0");
         Check.same("as long as the one ahead", z.settled(1), 4);
-        LateCarries longer = lineOf("0+++++>0");
+        LateCarries longer = Lines.of("0+++++>0");
         Check.same("no carry behind the third beat, but not settled", longer.settled(1), 5);
         longer.setPace(5);
         Check.same("at the pace 5", longer.settled(1), 2);
         Check.same("nothing is changed", longer.about(2), 0);
-        LateCarries heap = lineOf("0>0");
+        LateCarries heap = Lines.of("0>0");
         for (int i = 0; i < 250; i++) {
             heap.add(0, 2);
         }
@@ -542,7 +514,7 @@ public final class PromiseTest {
     }
 
     private static void promise23ShownAtLast() {
-        LateCarries x = lineOf("2+>2>1/2++++/0-0/1");
+        LateCarries x = Lines.of("2+>2>1/2++++/0-0/1");
         int[] due = {0, 0, 2, 0, 6, 1};
         for (int c = 0; c < due.length; c++) {
             Check.same("shownAtLast(" + c + ")", x.shownAtLast(c), due[c]);
@@ -552,7 +524,7 @@ public final class PromiseTest {
     }
 
     private static void promise24WhenShown() {
-        LateCarries x = lineOf("22+>2");
+        LateCarries x = Lines.of("22+>2");
         int[] due = {2, -1, -1, -1, -1, -1, 1, -1, 0};
         for (int v = 0; v < due.length; v++) {
             Check.same("whenShown(0, " + v + ")", x.whenShown(0, v), due[v]);
@@ -561,10 +533,10 @@ public final class PromiseTest {
         Check.same("whenShown(1, 1)", x.whenShown(1, 1), -1);
         Check.same("whenShown(1, 2)", x.whenShown(1, 2), 0);
         Check.same("whenShown(1, 19682)", x.whenShown(1, 19682), -1);
-        LateCarries y = lineOf("2++++");
+        LateCarries y = Lines.of("2++++");
         Check.same("the first time of two", y.whenShown(0, 0), 1);
-        Check.same("the last beat", lineOf("2+++").whenShown(0, 2), 0);
-        Check.same("settled already", lineOf("2/2").whenShown(0, 2), 0);
+        Check.same("the last beat", Lines.of("2+++").whenShown(0, 2), 0);
+        Check.same("settled already", Lines.of("2/2").whenShown(0, 2), 0);
         Check.refused("whenShown(2, -1)", x, INDEX, () -> x.whenShown(2, -1));
         Check.refused("whenShown(-1, 0)", x, INDEX, () -> x.whenShown(-1, 0));
         Check.refused("whenShown(0, -1)", x, ARGUMENT, () -> x.whenShown(0, -1));
@@ -572,7 +544,7 @@ public final class PromiseTest {
     }
 
     private static void promise25LeastPace() {
-        LateCarries x = lineOf("0+++++/0--");
+        LateCarries x = Lines.of("0+++++/0--");
         int[] due = {-1, 5, 3, 2, 2, 1};
         for (int n = 0; n < due.length; n++) {
             Check.same("leastPace(" + n + ")", x.leastPace(n), due[n]);
@@ -581,8 +553,8 @@ public final class PromiseTest {
         x.setPace(9);
         Check.same("whatever the pace is", x.leastPace(5), 1);
         Check.same("the pace stays", x.about(1), 9);
-        Check.same("leastPace(0)", lineOf("0/2").leastPace(0), 1);
-        LateCarries nine = lineOf("0+++++");
+        Check.same("leastPace(0)", Lines.of("0/2").leastPace(0), 1);
+        LateCarries nine = Lines.of("0+++++");
         nine.add(0, 2);
         nine.add(0, 2);
         Check.same("9 of them", nine.leastPace(1), 9);
@@ -594,15 +566,15 @@ public final class PromiseTest {
 
     private static void promise26Slowest() {
         Check.same("slowest(0) of a new one", new LateCarries().slowest(0), 2);
-        Check.same("slowest(0) of 1 place", lineOf("2").slowest(0), 2);
-        LateCarries x = lineOf("010/0100/02000/01/0/10");
+        Check.same("slowest(0) of 1 place", Lines.of("2").slowest(0), 2);
+        LateCarries x = Lines.of("010/0100/02000/01/0/10");
         x.setPace(9);
         int[] due = {6, 18, 1, 2, 1, 1};
         for (int c = 0; c < due.length; c++) {
             Check.same("slowest(" + c + ")", x.slowest(c), due[c]);
         }
-        Check.same("the last one of 8", lineOf("0+1").slowest(0), 8);
-        Check.same("with a counter ahead that is slower", lineOf("0+++++>0").slowest(1), 1);
+        Check.same("the last one of 8", Lines.of("0+1").slowest(0), 8);
+        Check.same("with a counter ahead that is slower", Lines.of("0+++++>0").slowest(1), 1);
         Check.refused("slowest(6)", x, INDEX, () -> x.slowest(6));
         Check.refused("slowest(-1)", x, INDEX, () -> x.slowest(-1));
     }
@@ -619,7 +591,7 @@ public final class PromiseTest {
         x.draw(1);
         Check.same("with those that there are", x.doubles(2, 1), 1);
         Check.same("and with this one", x.doubles(1, 1), 3);
-        LateCarries full = withTickets(40);
+        LateCarries full = Lines.withTickets(40);
         Check.same("behind 40 tickets", full.doubles(0, 1), 247 + 14);
         full.doubles(0, 9);
         Check.same("the tickets stay", full.about(3), 40);
@@ -636,7 +608,7 @@ public final class PromiseTest {
     }
 
     private static void promise28RunScript() {
-        LateCarries x = lineOf("0000/12/2+>0");
+        LateCarries x = Lines.of("0000/12/2+>0");
         long[] good = {
             100000, 100080, 110008, 130002, 200080, 230002, 300000, 330000, 400001, 400099, 500001, 500009,
             600000, 600001, 620001, 620000, 700000, 710005, 720002, 800001, 820000, 910000, 922000 - 2000, 923000};
@@ -667,7 +639,7 @@ public final class PromiseTest {
     }
 
     private static void scriptChanges() {
-        LateCarries x = lineOf("0++/2+/0/1+/2");
+        LateCarries x = Lines.of("0++/2+/0/1+/2");
         script(x, 3, 500002400001700002L, -1);
         script(x, 3, 500001400001700002L, 2);
         script(x, 3, 610001400002720001L, -1);
@@ -678,7 +650,7 @@ public final class PromiseTest {
         script(x, 1, 903000L, 0);
         script(x, 1, 930000L, 0);
         script(x, 1, 913000L, -1);
-        LateCarries linked = lineOf("2+>0");
+        LateCarries linked = Lines.of("2+>0");
         script(linked, 3, 600000400002710001L, 2);
         script(linked, 3, 600000400002710000L, -1);
         script(linked, 3, 600001400002710001L, -1);
@@ -694,37 +666,11 @@ public final class PromiseTest {
         Check.refused("runScript(3, 10^18)", x, ARGUMENT, () -> x.runScript(3, 1000000000000000000L));
         Check.refused("runScript(3, MAX)", x, ARGUMENT, () -> x.runScript(3, Long.MAX_VALUE));
         Check.refused("runScript(3, MIN)", x, ARGUMENT, () -> x.runScript(3, Long.MIN_VALUE));
-        LateCarries full = withTickets(39);
+        LateCarries full = Lines.withTickets(39);
         script(full, 1, 300000, -1);
         script(full, 2, 300000300000L, 1);
-        LateCarries one = lineOf("0");
+        LateCarries one = Lines.of("0");
         script(one, 1, 600001, 0);
-    }
-
-    /** Plays the turns by the calls of the face, on an object of its own. */
-    private static int played(LateCarries x, long seed, int m) {
-        int ahead = x.about(6);
-        long v = seed;
-        for (int i = 0; i < m; i++) {
-            v = v * 6364136223846793005L + 1442695040888963407L;
-            int r = (int) (v >>> 33);
-            int c = r / 8 % x.about(0);
-            try {
-                if (r % 8 <= 2) {
-                    x.draw(c);
-                } else if (r % 8 == 3) {
-                    x.add(c, r / 64 % 81);
-                } else if (r % 8 == 4) {
-                    x.add(c, -(r / 64 % 81));
-                } else if (r % 8 == 5) {
-                    x.pour(c, (c + 1) % x.about(0));
-                }
-            } catch (IllegalStateException | IllegalArgumentException e) {
-                // is left out
-            }
-            x.beats(1);
-        }
-        return 1000 * (x.about(6) - ahead) + x.about(5);
     }
 
     private static void promise29Simulate() {
@@ -732,13 +678,13 @@ public final class PromiseTest {
         for (String text : texts) {
             for (int m : new int[] {1, 2, 7, 50, 99}) {
                 for (long seed = -3; seed <= 3; seed++) {
-                    LateCarries x = lineOf(text);
+                    LateCarries x = Lines.of(text);
                     x.draw(0);
                     x.draw(0);
                     String ahead = Look.at(x);
                     int got = x.simulate(seed, m);
                     Check.same("the state behind a simulation", Look.at(x), ahead);
-                    Check.same("simulate(" + seed + ", " + m + ") of " + text, got, played(x, seed, m));
+                    Check.same("simulate(" + seed + ", " + m + ") of " + text, got, Lines.played(x, seed, m));
                 }
             }
         }
@@ -748,7 +694,7 @@ public final class PromiseTest {
     }
 
     private static void promise30Save() {
-        LateCarries x = lineOf("12+");
+        LateCarries x = Lines.of("12+");
         Check.same("save(0)", x.save(0), 0);
         x.beats(7);
         Check.same("save(1)", x.save(1), 7);
@@ -762,7 +708,7 @@ public final class PromiseTest {
     }
 
     private static void promise31Restore() {
-        LateCarries x = lineOf("12+>0/2-");
+        LateCarries x = Lines.of("12+>0/2-");
         x.draw(0);
         x.beats(1);
         String saved = Look.at(x);
