@@ -251,6 +251,10 @@ public final class EdgesOfAskingTest {
         slowest("00001", 0, 26);
         slowest("000000001", 0, 26);
         slowest("0/0/0/0/0/000000001", 5, 26);
+        // all of them take away from the borrows alike, and nothing, or a carry at a place above, would not
+        slowest("0-----0-", 0, 1);
+        slowest("0-----00-", 0, 1);
+        slowest("0+++++000", 0, 1);
         LateCarries more = Lines.of("00001");
         more.add(0, 80);
         LateCarries most = Lines.of("00001");
@@ -430,5 +434,32 @@ public final class EdgesOfAskingTest {
         Lines.type(x, "2+");
         x.restore(0);
         Check.same("the text is no part of it", x.clearText(), 2);
+        promise31RestoreOfOtherTickets();
+    }
+
+    /** Each slot has its own first ticket, neither of which is a later one of the other's tickets. */
+    private static void promise31RestoreOfOtherTickets() {
+        LateCarries x = Lines.of("0++/2-");
+        x.beats(1);
+        x.draw(0);
+        x.save(0);
+        x.undo();
+        x.undo();
+        x.draw(1);
+        x.save(1);
+        x.undo();
+        x.setPace(9);
+        x.beats(9);
+        x.draw(0);
+        long[][] due = {{0, 1, 1, 0, 1}, {1, 2, 0, 0, -1}, {0, 2, 9, 0, 0}};
+        for (int what = 0; what <= 4; what++) {
+            Check.same("now: ticket(0, " + what + ")", x.ticket(0, what), due[2][what]);
+        }
+        for (int i = 0; i < 4; i++) {
+            x.restore(i % 2);
+            for (int what = 0; what <= 4; what++) {
+                Check.same("restored: ticket(0, " + what + ")", x.ticket(0, what), due[i % 2][what]);
+            }
+        }
     }
 }

@@ -17,6 +17,7 @@ public final class EdgesOfReadingTest {
         promise3ClearText();
         promise4ErrorPosition();
         promise5Load();
+        promise5LoadLeavesNothingAbove();
         promise5LoadOfWhatIsNoLine();
         promise6About();
         promise7Shown();
@@ -163,7 +164,23 @@ public final class EdgesOfReadingTest {
         }
     }
 
-    /** With all counters made as long as they can be, and linked, x has to be like one that had no other line. */
+    /** Something waits at all places that a text of 100 characters has room for, when the new line comes. */
+    private static void promise5LoadLeavesNothingAbove() {
+        String[] lines = {"0", "1/2", "00000000/1", "0/0/0/0/0/0"};
+        String[] olds = {"2+1-2+1-2+1-2+1-2+>222222222/0-1+0-1+0-1+0-1+0->000000000/1+1+1+1+1+1+1+1+1+>0-2-0-2-0-2-0-2-0-",
+            "111111111>1+2+1+2+1+2+1+2+1+/111111111>1-2-1-2-1-2-1-2-1->111111111>1+2+1+2+1+2+1+2+1+"};
+        for (String line : lines) {
+            for (String old : olds) {
+                LateCarries x = Lines.of(old);
+                Check.same("six counters ahead", x.about(0), 6);
+                Lines.type(x, line);
+                x.load();
+                nothingIsLeftAbove(x, line);
+            }
+        }
+    }
+
+    /** With all counters made as long as they can be, x has to be like one that had no other line. */
     private static void nothingIsLeftAbove(LateCarries x, String line) {
         LateCarries fresh = Lines.of(line);
         Check.same("like a fresh one: " + line, Look.at(x), Look.at(fresh));
@@ -354,11 +371,27 @@ public final class EdgesOfReadingTest {
         for (int what = 0; what < due.length; what++) {
             Check.same("ticket(0, " + what + ")", x.ticket(0, what), due[what]);
         }
+        ticketExcess("222222222", 0);
+        ticketExcess("222222222-", -1);
+        ticketExcess("1+", 1);
+        ticketExcess("0+", 1);
+        ticketExcess("1+2---", 0);
+        ticketExcess("2-----2-----", -20);
         x.beats(50);
         x.setPace(5);
         for (int what = 0; what < due.length; what++) {
             Check.same("it stays: ticket(0, " + what + ")", x.ticket(0, what), due[what]);
         }
+    }
+
+    /** "4: how much greater than its number the worth of the counter was just ahead of its drawing" */
+    private static void ticketExcess(String line, int due) {
+        Supplier<LateCarries> drawn = () -> {
+            LateCarries x = Lines.of(line);
+            x.draw(0);
+            return x;
+        };
+        Check.asks("ticket(0, 4) of " + line, drawn, due, x -> x.ticket(0, 4));
     }
 
     /** "the lowest number first, of like ones the lowest counter, then the one that was drawn first" */
