@@ -39,9 +39,9 @@ final class Check {
         }
     }
 
-    /** The call has to throw exactly this exception, and to change nothing. */
+    /** The call has to throw exactly this exception, and to change nothing that a brief look tells. */
     static void refused(String what, LateCarries x, Class<? extends Exception> due, Runnable call) {
-        String ahead = Look.at(x);
+        String ahead = Look.brief(x);
         String got = "nothing";
         try {
             call.run();
@@ -49,7 +49,7 @@ final class Check {
             got = e.getClass().getSimpleName();
         }
         same(what + " throws", got, due.getSimpleName());
-        same("the state behind " + what, Look.at(x), ahead);
+        same("the state behind " + what, Look.brief(x), ahead);
     }
 
     /**

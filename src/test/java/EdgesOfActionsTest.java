@@ -371,26 +371,25 @@ public final class EdgesOfActionsTest {
         Check.Call[] actions = {
             x -> x.draw(2), x -> x.add(0, -3), x -> x.beats(2), x -> x.pour(0, 2), x -> x.link(0, false), x -> x.resize(0, 3),
             x -> x.setPace(2), x -> x.beats(99), x -> x.link(1, true), x -> x.resize(2, 1)};
-        String[] seen = new String[28];
-        LateCarries shown = Lines.of("12+>2/0-");
-        for (int i = 0; i < seen.length; i++) {
-            seen[i] = brief(shown);
-            actions[i % actions.length].on(shown);
+        for (int taken = 1; taken <= 14; taken++) {
+            LateCarries x = behind(actions, 28);
+            for (int i = 1; i <= taken; i++) {
+                Check.same("undo()", x.undo(), 14 - i);
+            }
+            Check.same("the state with " + taken + " taken back", Look.at(x), Look.at(behind(actions, 28 - taken)));
         }
-        for (int i = seen.length - 1; i >= 14; i--) {
-            Check.same("undo()", shown.undo(), i - 14);
-            Check.same("the state ahead of action " + i, brief(shown), seen[i]);
+        LateCarries none = behind(actions, 28);
+        for (int i = 13; i >= 0; i--) {
+            Check.same("undo()", none.undo(), i);
         }
-        Check.same("no more", Look.answer(shown::undo), "throws.IllegalStateException");
+        Check.same("no more", Look.answer(none::undo), "throws.IllegalStateException");
     }
 
-    private static String brief(LateCarries x) {
-        StringBuilder b = new StringBuilder();
-        b.append(x.about(1)).append(' ').append(x.about(2)).append(' ').append(x.about(3));
-        for (int c = 0; c < 3; c++) {
-            b.append(' ').append(x.shown(c)).append(' ').append(x.worth(c)).append(' ').append(x.counter(c, 0));
-            b.append(' ').append(x.counter(c, 1)).append(' ').append(x.counter(c, 2));
+    private static LateCarries behind(Check.Call[] actions, int n) {
+        LateCarries x = Lines.of("12+>2/0-");
+        for (int i = 0; i < n; i++) {
+            actions[i % actions.length].on(x);
         }
-        return b.toString();
+        return x;
     }
 }

@@ -156,9 +156,9 @@ public final class EdgesOfReadingTest {
                 Check.same("load() of " + line + " behind " + old, counters, line.split("[/>]").length);
                 Check.same("twice the same", x.load(), counters);
                 Check.same("the text is kept", x.errorPosition(), -1);
-                Check.refused("undo() behind load()", x, STATE, x::undo);
-                Check.refused("restore(0) behind load()", x, STATE, () -> x.restore(0));
-                Check.refused("restore(1) behind load()", x, STATE, () -> x.restore(1));
+                Check.same("undo() behind load()", Look.answer(x::undo), "throws.IllegalStateException");
+                Check.same("restore(0) behind load()", Look.answer(() -> x.restore(0)), "throws.IllegalStateException");
+                Check.same("restore(1) behind load()", Look.answer(() -> x.restore(1)), "throws.IllegalStateException");
                 nothingIsLeftAbove(x, line);
             }
         }
@@ -282,8 +282,9 @@ public final class EdgesOfReadingTest {
             Check.refusal("counter(" + c + ", 0)", BUSY, INDEX, x -> x.counter(c, 0));
             Check.refusal("counter(" + c + ", 6)", BUSY, INDEX, x -> x.counter(c, 6));
         }
-        LateCarries x = Lines.of("0/2+2+2+2+2+2+2+2+2+>0");
-        int[][] due = {{1, 0, 0, 0, 0, 0}, {9, 1, 0, 0, 9, 18}, {1, 0, 0, 0, 0, 0}};
+        LateCarries x = Lines.of("1+/2+2+2+2+2+2+2+2+2+>2+/0/0/111111111-");
+        int[][] due = {{1, 0, 0, 0, 1, 1}, {9, 1, 0, 0, 9, 18}, {1, 0, 0, 0, 1, 2}, {1, 0, 0, 0, 0, 0}, {1, 0, 0, 0, 0, 0},
+            {9, 0, 0, 0, 1, 9}};
         for (int c = 0; c < due.length; c++) {
             for (int what = 0; what < due[c].length; what++) {
                 Check.same("counter(" + c + ", " + what + ")", x.counter(c, what), due[c][what]);

@@ -169,10 +169,10 @@ public final class EdgesOfTermsTest {
         Check.same("nine places", Lines.of("2+++++".repeat(9)).worth(0), 7 * 9841);
         Check.same("nine places below 0", Lines.of("0-----".repeat(9)).worth(0), -5 * 9841);
         LateCarries x = Lines.of("222222222");
-        for (int i = 0; i < 500; i++) {
+        for (int i = 0; i < 490; i++) {
             x.add(0, 19682);
         }
-        Check.same("501 times the greatest", x.worth(0), 501L * 19682);
+        Check.same("491 times the greatest", x.worth(0), 491L * 19682);
         Check.same("it shows but one of them", x.shown(0), 19682);
     }
 

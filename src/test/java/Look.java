@@ -15,21 +15,42 @@ final class Look {
         }
     }
 
-    /** Everything that the reading calls tell. */
+    /**
+     * The whole state, by no more calls than it takes, for an object answers for 512 calls only: what is
+     * sorted, ranked or counted from these numbers has tests of its own.
+     */
     static String at(LateCarries x) {
         StringBuilder b = new StringBuilder("error ").append(x.errorPosition()).append(" about");
-        for (int what = 0; what <= 6; what++) {
+        int counters = x.about(0);
+        int tickets = x.about(3);
+        b.append(' ').append(counters).append(' ').append(tickets);
+        for (int what : new int[] {1, 2, 4, 5, 6}) {
             b.append(' ').append(x.about(what));
         }
-        for (int c = 0; c < x.about(0); c++) {
+        for (int c = 0; c < counters; c++) {
             counterInto(b, x, c);
         }
-        for (int k = 0; k < x.about(3); k++) {
+        for (int k = 0; k < tickets; k++) {
             b.append(" ticket");
-            for (int what = 0; what <= 4; what++) {
+            for (int what : new int[] {0, 1, 2, 4}) {
                 b.append(' ').append(x.ticket(k, what));
             }
-            b.append(" sorted ").append(x.sorted(k));
+        }
+        return b.toString();
+    }
+
+    /** So much of the state that most of what could be changed is seen, by few calls whatever the line is. */
+    static String brief(LateCarries x) {
+        StringBuilder b = new StringBuilder("error ").append(x.errorPosition()).append(" about");
+        int counters = x.about(0);
+        for (int what = 1; what <= 5; what++) {
+            b.append(' ').append(x.about(what));
+        }
+        for (int c = 0; c < counters; c++) {
+            b.append(" | ").append(x.shown(c)).append(' ').append(x.worth(c));
+            for (int what = 0; what <= 2; what++) {
+                b.append(' ').append(x.counter(c, what));
+            }
         }
         return b.toString();
     }
@@ -43,7 +64,7 @@ final class Look {
         for (int i = 0; i < MORE_THAN_REMEMBERED; i++) {
             String left = answer(x::undo);
             b.append("\n  undo ").append(left).append(':');
-            briefInto(b, x);
+            fewInto(b, x);
             if (left.startsWith("throws")) {
                 break;
             }
@@ -51,14 +72,14 @@ final class Look {
         for (int slot = 0; slot <= 1; slot++) {
             int which = slot;
             b.append("\n  restore ").append(answer(() -> x.restore(which))).append(':');
-            briefInto(b, x);
+            fewInto(b, x);
         }
         b.append("\n  error ").append(x.errorPosition()).append(" load ").append(answer(x::load)).append(':');
-        briefInto(b, x);
+        fewInto(b, x);
         return b.append(" length ").append(x.clearText()).toString();
     }
 
-    private static void briefInto(StringBuilder b, LateCarries x) {
+    private static void fewInto(StringBuilder b, LateCarries x) {
         for (int what = 1; what <= 5; what++) {
             b.append(' ').append(x.about(what));
         }
@@ -66,12 +87,10 @@ final class Look {
     }
 
     private static void counterInto(StringBuilder b, LateCarries x, int c) {
-        b.append(" | shown ").append(x.shown(c)).append(" worth ").append(x.worth(c));
-        b.append(" ranked ").append(x.ranked(c, false)).append(' ').append(x.ranked(c, true)).append(" what");
-        for (int what = 0; what <= 5; what++) {
-            b.append(' ').append(x.counter(c, what));
-        }
-        for (int p = 0; p < x.counter(c, 0); p++) {
+        int places = x.counter(c, 0);
+        b.append(" | shown ").append(x.shown(c)).append(" worth ").append(x.worth(c)).append(" places ").append(places);
+        b.append(" linked ").append(x.counter(c, 1)).append(" spilled ").append(x.counter(c, 2)).append(':');
+        for (int p = 0; p < places; p++) {
             b.append(' ').append(x.place(c, p, 0)).append('w').append(x.place(c, p, 1));
         }
     }

@@ -1,9 +1,13 @@
 import java.util.Random;
 import java.util.function.LongSupplier;
 
-/** Runs of 512 calls on LateCarries and on Model, each answer compared. The seeds are fixed. */
+/**
+ * Runs of 512 calls on LateCarries and on Model, each answer compared; the last ones look at all that there
+ * is to be seen of the counters and at many of the tickets. The seeds are fixed.
+ */
 public final class ModelTest {
     private static final int CALLS = 512;
+    private static final int LAST_LOOK = 170;
     private static final String SIGNS = "012012012012+-/> 3";
 
     private final Random random;
@@ -21,7 +25,7 @@ public final class ModelTest {
     }
 
     public static void main(String[] args) {
-        int runs = args.length > 0 ? Integer.parseInt(args[0]) : 200;
+        int runs = args.length > 0 ? Integer.parseInt(args[0]) : 300;
         int bad = 0;
         for (int run = 0; run < runs; run++) {
             ModelTest test = new ModelTest(run);
@@ -51,7 +55,7 @@ public final class ModelTest {
         if (flavour != 0) {
             typeLine(flavour);
         }
-        while (!wrong && calls < CALLS) {
+        while (!wrong && calls < CALLS - LAST_LOOK) {
             int kind = random.nextInt(100);
             if (kind < 45) {
                 act();
@@ -66,6 +70,12 @@ public final class ModelTest {
             } else {
                 text();
             }
+        }
+        for (int c = 0; c < m.about(0); c++) {
+            look(c);
+        }
+        for (int k = m.about(3) - 1; k >= 0; k--) {
+            look(k, random.nextInt(5));
         }
     }
 
@@ -142,7 +152,7 @@ public final class ModelTest {
 
     private void read() {
         if (random.nextInt(12) == 0) {
-            look();
+            look(random.nextInt(m.about(0)));
             return;
         }
         int c = counter();
@@ -171,29 +181,19 @@ public final class ModelTest {
         }
     }
 
-    /** All that is to be seen of the counters; these calls are not among the 512. */
-    private void look() {
-        int ahead = calls;
-        calls = 0;
-        for (int c = 0; c < m.about(0); c++) {
-            int counter = c;
-            both("worth", () -> x.worth(counter), () -> m.worth(counter));
-            both("spilled", () -> x.counter(counter, 2), () -> m.counter(counter, 2));
-            for (int p = 0; p < m.counter(c, 0); p++) {
-                int at = p;
-                both("digit", () -> x.place(counter, at, 0), () -> m.place(counter, at, 0));
-                both("waits", () -> x.place(counter, at, 1), () -> m.place(counter, at, 1));
-            }
+    private void look(int c) {
+        both("worth(" + c + ")", () -> x.worth(c), () -> m.worth(c));
+        both("counter(" + c + ", 2)", () -> x.counter(c, 2), () -> m.counter(c, 2));
+        for (int p = 0; p < m.counter(c, 0); p++) {
+            int at = p;
+            both("place(" + c + ", " + p + ", 0)", () -> x.place(c, at, 0), () -> m.place(c, at, 0));
+            both("place(" + c + ", " + p + ", 1)", () -> x.place(c, at, 1), () -> m.place(c, at, 1));
         }
-        for (int k = 0; k < m.about(3); k++) {
-            int ticket = k;
-            for (int what = 0; what <= 4; what++) {
-                int part = what;
-                both("ticket", () -> x.ticket(ticket, part), () -> m.ticket(ticket, part));
-            }
-            both("sorted", () -> x.sorted(ticket), () -> m.sorted(ticket));
-        }
-        calls = ahead;
+    }
+
+    private void look(int k, int what) {
+        both("ticket(" + k + ", " + what + ")", () -> x.ticket(k, what), () -> m.ticket(k, what));
+        both("sorted(" + k + ")", () -> x.sorted(k), () -> m.sorted(k));
     }
 
     private void foresee() {

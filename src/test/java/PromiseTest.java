@@ -1,3 +1,5 @@
+import java.util.function.Supplier;
+
 /** At least one test for each promise, worked out by hand from the document. */
 public final class PromiseTest {
     private static final Class<IndexOutOfBoundsException> INDEX = IndexOutOfBoundsException.class;
@@ -463,25 +465,37 @@ public final class PromiseTest {
     }
 
     private static void promise21Undo() {
+        for (int n = 0; n <= 30; n++) {
+            int kept = Math.min(n, 14);
+            for (int taken = kept; taken > 0; taken -= 3) {
+                LateCarries x = behind(n);
+                for (int i = 1; i <= taken; i++) {
+                    Check.same("undo()", x.undo(), kept - i);
+                }
+                Check.same("the state with " + taken + " of " + n + " taken back", Look.at(x), Look.at(behind(n - taken)));
+            }
+        }
+        LateCarries y = behind(30);
+        for (int i = 13; i >= 0; i--) {
+            Check.same("undo()", y.undo(), i);
+        }
+        Check.refused("undo() of the 15th", y, STATE, y::undo);
+        y.setPace(1);
+        Check.same("undo() of one", y.undo(), 0);
+        y.save(0);
+        y.append('0');
+        Check.refused("save and append are not actions", y, STATE, y::undo);
+    }
+
+    private static LateCarries behind(int n) {
         LateCarries x = Lines.of("2+>2+2-/0");
-        String[] seen = new String[30];
         Runnable[] acts = {
             () -> x.add(0, 2), () -> x.draw(1), () -> x.beats(2), () -> x.setPace(3), () -> x.link(0, false),
             () -> x.resize(1, 5), () -> x.pour(0, 1), () -> x.setPace(3), () -> x.link(1, true), () -> x.beats(1)};
-        for (int i = 0; i < 30; i++) {
-            seen[i] = Look.at(x);
+        for (int i = 0; i < n; i++) {
             acts[i % acts.length].run();
         }
-        for (int i = 29; i >= 16; i--) {
-            Check.same("undo()", x.undo(), i - 16);
-            Check.same("the state ahead of action " + i, Look.at(x), seen[i]);
-        }
-        Check.refused("undo() of the 15th", x, STATE, x::undo);
-        x.setPace(1);
-        Check.same("undo() of one", x.undo(), 0);
-        x.save(0);
-        x.append('0');
-        Check.refused("save and append are not actions", x, STATE, x::undo);
+        return x;
     }
 
     private static void promise22Settled() {
@@ -601,14 +615,15 @@ public final class PromiseTest {
         Check.refused("doubles(0, 10)", x, ARGUMENT, () -> x.doubles(0, 10));
     }
 
-    private static void script(LateCarries x, int n, long script, int due) {
+    private static void script(Supplier<LateCarries> made, int n, long script, int due) {
+        LateCarries x = made.get();
         String ahead = Look.at(x);
         Check.same("runScript(" + n + ", " + script + ")", x.runScript(n, script), due);
         Check.same("the state behind a script", Look.at(x), ahead);
     }
 
     private static void promise28RunScript() {
-        LateCarries x = Lines.of("0000/12/2+>0");
+        Supplier<LateCarries> x = () -> Lines.of("0000/12/2+>0");
         long[] good = {
             100000, 100080, 110008, 130002, 200080, 230002, 300000, 330000, 400001, 400099, 500001, 500009,
             600000, 600001, 620001, 620000, 700000, 710005, 720002, 800001, 820000, 910000, 922000 - 2000, 923000};
@@ -635,11 +650,11 @@ public final class PromiseTest {
         script(x, 3, 999999999999999999L, 0);
         script(x, 3, 300000999999300000L, 1);
         scriptChanges();
-        scriptRefused(x);
+        scriptRefused(x.get());
     }
 
     private static void scriptChanges() {
-        LateCarries x = Lines.of("0++/2+/0/1+/2");
+        Supplier<LateCarries> x = () -> Lines.of("0++/2+/0/1+/2");
         script(x, 3, 500002400001700002L, -1);
         script(x, 3, 500001400001700002L, 2);
         script(x, 3, 610001400002720001L, -1);
@@ -650,7 +665,7 @@ public final class PromiseTest {
         script(x, 1, 903000L, 0);
         script(x, 1, 930000L, 0);
         script(x, 1, 913000L, -1);
-        LateCarries linked = Lines.of("2+>0");
+        Supplier<LateCarries> linked = () -> Lines.of("2+>0");
         script(linked, 3, 600000400002710001L, 2);
         script(linked, 3, 600000400002710000L, -1);
         script(linked, 3, 600001400002710001L, -1);
@@ -666,11 +681,10 @@ public final class PromiseTest {
         Check.refused("runScript(3, 10^18)", x, ARGUMENT, () -> x.runScript(3, 1000000000000000000L));
         Check.refused("runScript(3, MAX)", x, ARGUMENT, () -> x.runScript(3, Long.MAX_VALUE));
         Check.refused("runScript(3, MIN)", x, ARGUMENT, () -> x.runScript(3, Long.MIN_VALUE));
-        LateCarries full = Lines.withTickets(39);
+        Supplier<LateCarries> full = () -> Lines.withTickets(39);
         script(full, 1, 300000, -1);
         script(full, 2, 300000300000L, 1);
-        LateCarries one = Lines.of("0");
-        script(one, 1, 600001, 0);
+        script(() -> Lines.of("0"), 1, 600001, 0);
     }
 
     private static void promise29Simulate() {
